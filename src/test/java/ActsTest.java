@@ -71,6 +71,13 @@ public final class ActsTest {
         Check.due("hour()", wash.hour(), 2);
         Check.due("hour()", wash.hour(), 0);
         Check.due("count(7)", wash.count(7), 8);
+        FlagWash two = Check.laundry("U340Fa21Fa21Fa11");
+        two.send(0);
+        two.send(1);
+        two.send(2);
+        two.hour();
+        two.hour();
+        Check.due("hour(), two come home in it", two.hour(), 3);
         FlagWash dyed = Check.laundry("U111Fa31");
         dyed.send(0);
         dyed.hour();

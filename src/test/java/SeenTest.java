@@ -66,6 +66,11 @@ public final class SeenTest {
         dueHad(wash, 0, 0, FlagWash.NONE, FlagWash.NONE);
         wash.see(2, 0, 1);
         dueHad(wash, 2, 0, FlagWash.NONE, FlagWash.NONE);
+        wash.unsee();
+        wash.see(0, 15, 0);
+        wash.see(1, 0, 0);
+        dueHad(wash, 0, 1, 15, 0);
+        dueHad(wash, 1, 1, 0, 15);
     }
 
     private static void promise20OthersAsNow() {
