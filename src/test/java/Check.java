@@ -2,6 +2,7 @@
 final class Check {
     private static int wrong = 0;
     private static int looked = 0;
+    private static String sentence = "";
 
     private Check() {
     }
@@ -10,8 +11,13 @@ final class Check {
         looked++;
         if (got != want) {
             wrong++;
-            System.out.println(call + " answered " + got + ", due is " + want);
+            System.out.println(sentence + call + " answered " + got + ", due is " + want);
         }
+    }
+
+    /** The document's words that the answers behind this are looked at for; told with each wrong one. */
+    static void sentence(String words) {
+        sentence = "'" + words + "': ";
     }
 
     static void dueTrue(String what, boolean holds) {
