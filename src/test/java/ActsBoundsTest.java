@@ -18,6 +18,7 @@ public final class ActsBoundsTest {
         pegsAreFull();
         pegFreeInThatHour();
         dyesOfThatHour();
+        dyesByNumber();
         hourComesHome();
         hourWithoutFlags();
         hourIsOneMore();
@@ -274,6 +275,26 @@ public final class ActsBoundsTest {
         Check.dueFlag(none, 1, 1, 1, 3);
         Check.dueFlag(none, 2, 9, 1, 2);
         Check.dueFlag(none, 3, 15, 0, 0);
+    }
+
+    private static void dyesByNumber() {
+        Check.sentence("1: If any FLAGS in TUBS are DYED: the first, the last one");
+        for (int dyed = 0; dyed < 5; dyed++) {
+            StringBuilder text = new StringBuilder("U240");
+            for (int flag = 0; flag < 5; flag++) {
+                text.append(flag == dyed ? "Fp34" : "Fa04");
+            }
+            for (int other = 0; other < 5; other++) {
+                if (other != dyed) {
+                    FlagWash wash = Check.laundry(text.toString());
+                    wash.send(other);
+                    wash.send(dyed);
+                    wash.hour();
+                    Check.dueFlag(wash, other, 15, 1, 3);
+                    Check.dueFlag(wash, dyed, 15, 1, 3);
+                }
+            }
+        }
     }
 
     private static void hourComesHome() {

@@ -91,8 +91,16 @@ public final class FaceTest {
             Check.dueTrue(one + " is not of the face", !Modifier.isPublic(one.getModifiers()));
             Check.dueTrue(one + " has few fields", fieldsThatAreNoConstants(one) <= 20);
             Check.due(one + ": classes inside it", one.getDeclaredClasses().length, 0);
+            for (Method method : one.getDeclaredMethods()) {
+                Check.dueTrue(method + " bears no name of the face", !isOfFace(method.getName()));
+                Check.dueTrue(method + " takes at most seven", method.getParameterCount() <= 7);
+            }
         }
         Check.dueTrue("FlagWash has few fields", fieldsThatAreNoConstants(FlagWash.class) <= 20);
+    }
+
+    private static boolean isOfFace(String name) {
+        return Arrays.stream(FACE).anyMatch(face -> face.contains(" " + name + "("));
     }
 
     private static int fieldsThatAreNoConstants(Class<?> one) {

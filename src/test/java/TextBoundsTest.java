@@ -22,6 +22,7 @@ public final class TextBoundsTest {
         laundryRefused();
         laundryMadeAnew();
         laundryForgets();
+        laundryOfFewerFlags();
         laundryLeaves();
         flagNumbers();
         flagWhats();
@@ -305,6 +306,25 @@ public final class TextBoundsTest {
         Check.makeAnew(wash, "U110");
         Check.due("flag(0, 0)", wash.flag(0, 0), FlagWash.UNKNOWN);
         Check.dueCounts("without flags", wash, 4, 0, 1, 1, 0, 0, 0, 0, 0, 1);
+    }
+
+    private static void laundryOfFewerFlags() {
+        Check.sentence("5: THE TEXT is THE LAUNDRY: nothing of a greater one before it is left");
+        FlagWash wash = Check.laundry(FULL_TEXT);
+        Check.makeAnew(wash, "U310Fb01Fc01Fe01");
+        Check.dueCounts("three friends", wash, 16, 3, 3, 1, 0, 7, 0, 0, 0, 0);
+        Check.due("quiet()", wash.quiet(), FlagWash.NONE);
+        Check.due("peace(0, 1)", wash.peace(0, 1), FlagWash.NONE);
+        Check.due("sending(false)", wash.sending(false), 0);
+        Check.due("sending(true)", wash.sending(true), FlagWash.NONE);
+        Check.due("cover()", wash.cover(), 0);
+        Check.due("weeks(30)", wash.weeks(30), 0);
+        Check.due("share(0, true)", wash.share(0, true), 0);
+        Check.due("judge(1, 4)", wash.judge(1, 4), 0);
+        Check.due("send(3)", wash.send(3), FlagWash.UNKNOWN);
+        Check.makeAnew(wash, "U310Fb01Fc01Fe01Fi01Fp01");
+        Check.dueCounts("five friends", wash, 24, 5, 3, 1, 0, 31, 0, 0, 0, 0);
+        Check.due("quiet()", wash.quiet(), FlagWash.NONE);
     }
 
     private static void laundryLeaves() {
