@@ -115,7 +115,7 @@ public final class LaundryTest {
     }
 
     private static void promise4WholeTexts() {
-        // A sixth flag or all ten pairs would be too long a text; the length is set aside.
+        // All ten pairs of five flags would be too long a text; eight fit just.
         Check.dueFault("U110Fa01Fa01Fa01Fa01Fa01H01H02H03H04H12H13H14H23", FlagWash.NONE);
         Check.dueFault("U110Fa01Fa01Fa01Fa01H01H02H03H12H13H23Fa01H04H1", 47);
         Check.dueFault("U110Fa01Fa01Fa01Fa01H01H02H03H12H13H23Fa01H04H14", FlagWash.NONE);
